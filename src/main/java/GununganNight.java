@@ -40,12 +40,6 @@ public final class GununganNight {
     private static final char LEARNS = 'f';
     private static final char NO_BAR = '-';
 
-    private static final String OUT_OF_RANGE = "a number is out of range";
-    private static final String NO_SIDE = "there is no such side";
-    private static final String NO_PERSON = "there is no such person";
-    private static final String NO_FIGURE = "there is no such figure";
-    private static final String NO_EPISODE = "there is no such episode";
-
     private final ArrayList<Person> persons = new ArrayList<>();
     /** Of the night: who is dead, and who knows what. */
     private final Marks fates = new Marks();
@@ -467,13 +461,9 @@ public final class GununganNight {
 
     // What the calls share
 
-    private static boolean isWithin(int number, int least, int most) {
-        return number >= least && number <= most;
-    }
-
     private static void requireWithin(int number, int least, int most) {
-        if (!isWithin(number, least, most)) {
-            throw new IllegalArgumentException(OUT_OF_RANGE);
+        if (number < least || number > most) {
+            throw new IllegalArgumentException("a number is out of range");
         }
     }
 
@@ -487,7 +477,7 @@ public final class GununganNight {
 
     private static void requireSide(char side) {
         if (side != LEFT && side != RIGHT) {
-            throw new IllegalArgumentException(NO_SIDE);
+            throw new IllegalArgumentException("there is no such side");
         }
     }
 
@@ -505,21 +495,21 @@ public final class GununganNight {
 
     private Person personAt(int number) {
         if (number < 0 || number >= persons.size()) {
-            throw new IndexOutOfBoundsException(NO_PERSON);
+            throw new IndexOutOfBoundsException("there is no such person");
         }
         return persons.get(number);
     }
 
     private Figure figureAt(int number) {
         if (number < 0 || number >= stage.figures.size()) {
-            throw new IndexOutOfBoundsException(NO_FIGURE);
+            throw new IndexOutOfBoundsException("there is no such figure");
         }
         return stage.figures.get(number);
     }
 
     private Episode episodeAt(int number) {
         if (number < 0 || number >= epic.episodes.size()) {
-            throw new IndexOutOfBoundsException(NO_EPISODE);
+            throw new IndexOutOfBoundsException("there is no such episode");
         }
         return epic.episodes.get(number);
     }

@@ -1,9 +1,5 @@
 /** Promises 34 to 43. */
 public final class MusicAndPublicTest {
-    private static final String IAE = "throws.IllegalArgumentException;";
-    private static final String UOE = "throws.UnsupportedOperationException;";
-    private static final String NSEE = "throws.NoSuchElementException;";
-
     public static void main(String[] args) {
         piece();
         start();
@@ -20,35 +16,35 @@ public final class MusicAndPublicTest {
 
     private static void piece() {
         Script.run("34 piece",
-                "piece(-1, 4, 0) =" + IAE, "piece(8, 4, 0) =" + IAE, "piece(0, 3, 0) =" + IAE,
-                "piece(0, 65, 0) =" + IAE, "piece(0, 4, -1) =" + IAE, "piece(0, 4, 3) =" + IAE,
+                "piece(-1, 4, 0) = IAE; piece(8, 4, 0) = IAE; piece(0, 3, 0) = IAE",
+                "piece(0, 65, 0) = IAE; piece(0, 4, -1) = IAE; piece(0, 4, 3) = IAE",
                 "piece(0, 4, 0) = 0; piece(0, 64, 2) = 4; piece(0, 8, 0) = 64; piece(7, 5, 0) = 0",
-                "piece(3, 20, 0) = 0; start(0) = 8; piece(0, 8, 0) =" + UOE, "piece(0, 3, 0) =" + IAE,
-                "piece(7, 6, 1) = 5; piece(7, 5, 0) = 6; knock(7) = 0; piece(7, 6, 0) =" + UOE,
-                "piece(3, 30, 1) = 20; go(1); playing() = 7; piece(7, 9, 0) =" + UOE, "piece(0, 9, 0) = 8");
+                "piece(3, 20, 0) = 0; start(0) = 8; piece(0, 8, 0) = UOE; piece(0, 3, 0) = IAE",
+                "piece(7, 6, 1) = 5; piece(7, 5, 0) = 6; knock(7) = 0; piece(7, 6, 0) = UOE",
+                "piece(3, 30, 1) = 20; go(1); playing() = 7; piece(7, 9, 0) = UOE; piece(0, 9, 0) = 8");
         Script.run("34 piece, behind the music",
                 "piece(0, 9, 0); start(0); go(120); go(60); nextMode(); piece(0, 7, 1) = 9; start(0) = 7");
     }
 
     private static void start() {
         Script.run("35 start",
-                "start(-1) =" + IAE, "start(8) =" + IAE, "start(0) =" + UOE, "piece(0, 4, 1); start(0) =" + UOE,
-                "piece(1, 7, 0); start(1) = 7; start(1) =" + UOE, "start(8) =" + IAE, "piece(2, 9, 0)",
-                "start(2) =" + UOE, "playing() = 1; stroke() = 7; go(1); stroke() = 4");
+                "start(-1) = IAE; start(8) = IAE; start(0) = UOE; piece(0, 4, 1); start(0) = UOE",
+                "piece(1, 7, 0); start(1) = 7; start(1) = UOE; start(8) = IAE; piece(2, 9, 0)",
+                "start(2) = UOE; playing() = 1; stroke() = 7; go(1); stroke() = 4");
         Script.run("35 start, in the mode",
-                "piece(0, 4, 1); piece(1, 64, 0); start(1) = 64; go(120); go(60); start(0) =" + UOE,
-                "nextMode(); start(1) =" + UOE, "start(0) = 4; playing() = 0");
+                "piece(0, 4, 1); piece(1, 64, 0); start(1) = 64; go(120); go(60); start(0) = UOE",
+                "nextMode(); start(1) = UOE; start(0) = 4; playing() = 0");
     }
 
     private static void knock() {
         Script.run("36 knock",
-                "knock(-1) =" + IAE, "knock(8) =" + IAE, "piece(0, 16, 0); piece(1, 8, 0); piece(2, 8, 1)",
-                "knock(0) =" + UOE, "start(0); knock(3) =" + UOE, "knock(2) =" + UOE, "knock(8) =" + IAE,
-                "asked() =" + NSEE, "knock(1) = 0; knock(0) =" + UOE, "asked() = 1; go(1); playing() = 0; stroke() = 6",
-                "knock(0) =" + UOE, "go(1); playing() = 1; stroke() = 4; asked() =" + NSEE, "knock(0) = 0; go(1)",
+                "knock(-1) = IAE; knock(8) = IAE; piece(0, 16, 0); piece(1, 8, 0); piece(2, 8, 1)",
+                "knock(0) = UOE; start(0); knock(3) = UOE; knock(2) = UOE; knock(8) = IAE",
+                "asked() = NSEE; knock(1) = 0; knock(0) = UOE; asked() = 1; go(1); playing() = 0; stroke() = 6",
+                "knock(0) = UOE; go(1); playing() = 1; stroke() = 4; asked() = NSEE; knock(0) = 0; go(1)",
                 "playing() = 0; stroke() = 10");
         Script.run("36 knock, the same piece", "piece(0, 16, 0); start(0); go(1); knock(0) = 0; asked() = 0; go(1)",
-                "playing() = 0; asked() =" + NSEE, "stroke() = 12");
+                "playing() = 0; asked() = NSEE; stroke() = 12");
         Script.run("36 knock, at a great stroke", "piece(0, 10, 0); piece(1, 20, 0); start(0); go(1); stroke() = 10",
                 "knock(1) = 0; playing() = 0; asked() = 1; go(1); playing() = 1; stroke() = 20");
     }
@@ -56,7 +52,7 @@ public final class MusicAndPublicTest {
     private static void knockReadLate() {
         Script.run("36 knock, read late", "piece(0, 4, 0); piece(1, 64, 0); piece(2, 11, 0)",
                 "go(119); start(0) = 4; knock(1) = 0; go(1); playing() = 1; stroke() = 58; knock(2) = 2",
-                "asked() = 2; knock(0) = 2; asked() = 0; go(1); knock(2) =" + UOE, "asked() = 0; go(4); asked() = 0",
+                "asked() = 2; knock(0) = 2; asked() = 0; go(1); knock(2) = UOE; asked() = 0; go(4); asked() = 0",
                 "go(1); playing() = 0; stroke() = 2; knock(1) = 2; go(1); playing() = 1; stroke() = 56");
         Script.run("36 knock, a stroke ahead of the reading", "piece(0, 7, 0); piece(1, 64, 0)",
                 "go(120); go(120); go(120); start(0); go(2); stroke() = 1; knock(1) = 6; go(1) = 363; playing() = 1;",
@@ -72,24 +68,24 @@ public final class MusicAndPublicTest {
     }
 
     private static void playing() {
-        Script.run("37 playing", "playing() =" + NSEE, "piece(5, 4, 0); playing() =" + NSEE, "start(5)",
-                "playing() = 5; go(120); playing() = 5; go(60); nextMode(); playing() =" + NSEE);
+        Script.run("37 playing", "playing() = NSEE; piece(5, 4, 0); playing() = NSEE; start(5)",
+                "playing() = 5; go(120); playing() = 5; go(60); nextMode(); playing() = NSEE");
     }
 
     private static void asked() {
-        Script.run("38 asked", "asked() =" + NSEE, "piece(5, 20, 0); start(5); asked() =" + NSEE,
-                "knock(5); asked() = 5; go(1); asked() = 5; go(1); asked() =" + NSEE);
+        Script.run("38 asked", "asked() = NSEE; piece(5, 20, 0); start(5); asked() = NSEE",
+                "knock(5); asked() = 5; go(1); asked() = 5; go(1); asked() = NSEE");
     }
 
     private static void stroke() {
-        Script.run("39 stroke", "stroke() =" + NSEE, "piece(0, 15, 0); stroke() =" + NSEE, "start(0) = 15",
+        Script.run("39 stroke", "stroke() = NSEE; piece(0, 15, 0); stroke() = NSEE; start(0) = 15",
                 "stroke() = 15; go(1); stroke() = 5; go(1); stroke() = 10; go(1); stroke() = 15; go(120)",
                 "stroke() = 15; go(1); stroke() = 5");
     }
 
     private static void crowdAndAsleep() {
-        Script.run("40 crowd", "crowd(-1) =" + IAE, "crowd(501) =" + IAE, "crowd(500) = 0; crowd(0) = 500",
-                "crowd(7) = 0; crowd(900) =" + IAE, "crowd(8) = 7");
+        Script.run("40 crowd", "crowd(-1) = IAE; crowd(501) = IAE; crowd(500) = 0; crowd(0) = 500",
+                "crowd(7) = 0; crowd(900) = IAE; crowd(8) = 7");
         Script.run("42 asleep", "asleep() = 0; crowd(500); asleep() = 0; go(10); asleep() = 5; crowd(99); asleep() = 0",
                 "crowd(199); asleep() = 1; rain(true); go(120); go(120); asleep() = 97; go(120); go(120); go(40)",
                 "attention() = 0; asleep() = 199; crowd(0); asleep() = 0");

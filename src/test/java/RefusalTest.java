@@ -1,4 +1,5 @@
 import java.lang.reflect.Method;
+import java.lang.reflect.Modifier;
 import java.util.ArrayList;
 import java.util.Comparator;
 import java.util.List;
@@ -15,7 +16,7 @@ public final class RefusalTest {
 
     public static void main(String[] args) {
         List<Method> methods = new ArrayList<>(List.of(GununganNight.class.getDeclaredMethods()));
-        methods.removeIf(method -> !java.lang.reflect.Modifier.isPublic(method.getModifiers()));
+        methods.removeIf(method -> !Modifier.isPublic(method.getModifiers()));
         methods.sort(Comparator.comparing(Method::getName));
         for (int seed = 0; seed < NIGHTS; seed++) {
             play(seed, methods);

@@ -1,14 +1,22 @@
 import java.lang.reflect.InvocationTargetException;
 import java.lang.reflect.Method;
+import java.util.Map;
 import java.util.regex.Matcher;
 import java.util.regex.Pattern;
 
 /**
- * Runs calls that are written as the document writes them: "take(1) = 0; take(9) = throws.IndexOutOfBoundsException".
- * A call without an answer must only not throw. Each run has a new object; what is not as due is printed.
+ * Runs calls that are written as the document writes them: "take(1) = 0; take(2) = UOE", an exception by the first
+ * letters of its name. A call without an answer must only not throw. Each run has a new object; what is not as due
+ * is printed.
  */
 final class Script {
     private static final Pattern CALL = Pattern.compile("(\\w+)\\((.*)\\)(?:\\s*=\\s*(.+))?");
+    private static final Map<String, String> EXCEPTIONS = Map.of(
+            "IAE", "throws.IllegalArgumentException",
+            "ISE", "throws.IllegalStateException",
+            "IOOBE", "throws.IndexOutOfBoundsException",
+            "UOE", "throws.UnsupportedOperationException",
+            "NSEE", "throws.NoSuchElementException");
     private static int calls = 0;
     private static int wrong = 0;
 
@@ -33,7 +41,7 @@ final class Script {
         Object[] arguments = argumentsOf(method, call.group(2).strip());
         String due = call.group(3);
         String got = answerOf(night, method, arguments);
-        boolean isAsDue = due == null ? !got.startsWith("throws.") : due.strip().equals(got);
+        boolean isAsDue = due == null ? !got.startsWith("throws.") : EXCEPTIONS.getOrDefault(due, due).equals(got);
         note(isAsDue, title + ": " + text + " answered " + got);
     }
 

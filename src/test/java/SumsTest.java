@@ -1,7 +1,5 @@
 /** Promises 44 to 47. */
 public final class SumsTest {
-    private static final String NSEE = "throws.NoSuchElementException;";
-
     public static void main(String[] args) {
         checksum();
         checksumThatWrapsRound();
@@ -37,15 +35,15 @@ public final class SumsTest {
     }
 
     private static void playedShare() {
-        Script.run("45 playedShare", "playedShare() =" + NSEE, "episode('b', 1, 0, false); playedShare() = 0.0",
+        Script.run("45 playedShare", "playedShare() = NSEE; episode('b', 1, 0, false); playedShare() = 0.0",
                 "episode('t', 1, 0, false); episode('t', 1, 0, false); begin(1); playedShare() = 0.0; go(1)",
                 "playedShare() = 0.33333334; begin(0); go(1); playedShare() = 0.6666667; begin(2); go(1)",
                 "playedShare() = 1.0");
     }
 
     private static void meanLength() {
-        Script.run("46 meanLength", "meanLength() =" + NSEE, "episode('b', 7, 0, false); meanLength() =" + NSEE,
-                "episode('t', 10, 0, false); episode('t', 3, 0, false); begin(0); meanLength() =" + NSEE, "go(7)",
+        Script.run("46 meanLength", "meanLength() = NSEE; episode('b', 7, 0, false); meanLength() = NSEE",
+                "episode('t', 10, 0, false); episode('t', 3, 0, false); begin(0); meanLength() = NSEE; go(7)",
                 "meanLength() = 7.0; begin(1); go(10); meanLength() = 8.5; begin(2); go(3)",
                 "meanLength() = 6.666666666666667");
     }
@@ -57,5 +55,13 @@ public final class SumsTest {
                 "episode('t', 2, 0, false); episode('b', 2, 0, false); episode('t', 2, 0, false); before(0, 1)",
                 "before(1, 2); tell(0, 'a', 0, 0); tell(1, 'd', 0, 0); isSound() = true; begin(0); go(2)",
                 "isSound() = true; begin(1); go(2); begin(2); isSound() = true; go(2); isSound() = true");
+        Script.run("47 isSound, the greater numbers first",
+                Script.each(0, 3, "episode('t', 2, 0, false)"), "before(0, 2); begin(3); go(2); isSound() = true",
+                "begin(1); go(2); isSound() = true; begin(0); go(2); isSound() = true; begin(2); go(2)",
+                "isSound() = true");
+        Script.run("47 isSound, deaths that may come",
+                "person(1, 0, 'l'); person(1, 0, 'l'); episode('t', 2, 0, false); episode('b', 2, 0, false)",
+                "episode('b', 2, 0, false); tell(0, 'a', 0, 0); tell(0, 'd', 0, 0); tell(1, 'd', 1, 0)",
+                "tell(2, 'a', 1, 0); isSound() = true");
     }
 }
