@@ -1,15 +1,20 @@
 import java.lang.reflect.InvocationTargetException;
 import java.lang.reflect.Method;
+import java.util.ArrayList;
+import java.util.List;
 import java.util.Map;
 import java.util.regex.Matcher;
 import java.util.regex.Pattern;
 
 /**
  * Runs calls that are written as the document writes them: "take(1) = 0; take(2) = UOE", an exception by the first
- * letters of its name. A call without an answer must only not throw. Each run has a new object; what is not as due
- * is printed.
+ * letters of its name, a character between quotes or by its number. A call without an answer must only not throw.
+ * Each run has a new object; what is not as due is printed. Of each call that throws it is looked at whether it has
+ * changed something.
  */
 final class Script {
+    /** The document promises nothing behind so many calls on one object. */
+    private static final int MOST_CALLS = 512;
     private static final Pattern CALL = Pattern.compile("(\\w+)\\((.*)\\)(?:\\s*=\\s*(.+))?");
     private static final Map<String, String> EXCEPTIONS = Map.of(
             "IAE", "throws.IllegalArgumentException",
@@ -17,32 +22,76 @@ final class Script {
             "IOOBE", "throws.IndexOutOfBoundsException",
             "UOE", "throws.UnsupportedOperationException",
             "NSEE", "throws.NoSuchElementException");
-    private static int calls = 0;
+    private static int looks = 0;
     private static int wrong = 0;
 
-    private Script() {
+    private final String title;
+    private final GununganNight night = new GununganNight();
+    /** The calls up to now that did not throw: as others change nothing, these alone make the same night. */
+    private final List<Call> calls = new ArrayList<>();
+    /** What was thrown by which method, written "take UnsupportedOperationException". */
+    private final List<String> refusals = new ArrayList<>();
+
+    /** One call with its arguments, to be made on any object. */
+    private record Call(Method method, Object[] arguments) {
+        String on(GununganNight night) {
+            return answerOf(night, method, arguments);
+        }
     }
 
-    static void run(String title, String... texts) {
-        GununganNight night = new GununganNight();
+    private Script(String title) {
+        this.title = title;
+    }
+
+    /** Runs the calls, and returns what was thrown, written "take UnsupportedOperationException". */
+    static List<String> run(String title, String... texts) {
+        Script script = new Script(title);
         for (String part : String.join(";", texts).split(";")) {
             if (!part.isBlank()) {
-                check(title, night, part.strip().replaceAll("\\s+", " "));
+                script.check(part.strip().replaceAll("\\s+", " "));
             }
+        }
+        note(script.calls.size() <= MOST_CALLS, title + ": has too many calls");
+        return script.refusals;
+    }
+
+    private void check(String text) {
+        Matcher parts = CALL.matcher(text);
+        if (!parts.matches()) {
+            throw new IllegalArgumentException("not a call: " + text);
+        }
+        Method method = methodNamed(parts.group(1));
+        Call call = new Call(method, argumentsOf(method, parts.group(2).strip()));
+        String due = parts.group(3);
+        String got = call.on(night);
+        boolean isAsDue = due == null ? !got.startsWith("throws.") : EXCEPTIONS.getOrDefault(due, due).equals(got);
+        note(isAsDue, title + ": " + text + " answered " + got);
+        if (got.startsWith("throws.")) {
+            refusals.add(method.getName() + " " + got.substring("throws.".length()));
+            checkThatNothingChanged(call, got, text);
+        } else {
+            calls.add(call);
         }
     }
 
-    private static void check(String title, GununganNight night, String text) {
-        Matcher call = CALL.matcher(text);
-        if (!call.matches()) {
-            throw new IllegalArgumentException("not a call: " + text);
+    /** A night with the call that throws, and one that is spared it, can't be told from each other by any call. */
+    private void checkThatNothingChanged(Call call, String got, String text) {
+        GununganNight spared = replay();
+        GununganNight refused = replay();
+        boolean isSame = call.on(refused).equals(got) && call.on(refused).equals(got);
+        note(isSame, title + ": " + text + " does not throw each time");
+        int callsLeft = MOST_CALLS - calls.size() - 2;
+        String due = Probe.of(spared, callsLeft);
+        String seen = Probe.of(refused, callsLeft);
+        note(due.equals(seen), title + ": " + text + " changed something:\n" + due + "\n" + seen);
+    }
+
+    private GununganNight replay() {
+        GununganNight another = new GununganNight();
+        for (Call call : calls) {
+            call.on(another);
         }
-        Method method = methodNamed(call.group(1));
-        Object[] arguments = argumentsOf(method, call.group(2).strip());
-        String due = call.group(3);
-        String got = answerOf(night, method, arguments);
-        boolean isAsDue = due == null ? !got.startsWith("throws.") : EXCEPTIONS.getOrDefault(due, due).equals(got);
-        note(isAsDue, title + ": " + text + " answered " + got);
+        return another;
     }
 
     static Method methodNamed(String name) {
@@ -64,7 +113,7 @@ final class Script {
         for (int i = 0; i < types.length; i++) {
             String word = words[i].strip();
             if (types[i] == char.class) {
-                arguments[i] = word.charAt(1);
+                arguments[i] = word.startsWith("'") ? word.charAt(1) : (char) Integer.parseInt(word);
             } else if (types[i] == boolean.class) {
                 arguments[i] = word.equals("true");
             } else {
@@ -98,7 +147,7 @@ final class Script {
     }
 
     static void note(boolean isAsDue, String what) {
-        calls++;
+        looks++;
         if (!isAsDue) {
             wrong++;
             System.out.println(what);
@@ -114,10 +163,19 @@ final class Script {
         return all.toString();
     }
 
+    /** Lets the night's minutes go by from the one to the other, in as few calls as can be. */
+    static String pass(int from, int to) {
+        StringBuilder all = new StringBuilder();
+        for (int minute = from; minute < to; minute += 120) {
+            all.append("go(").append(Math.min(120, to - minute)).append(");");
+        }
+        return all.toString();
+    }
+
     /** Ends a test: prints how many answers were looked at, and exits with 1 if one was wrong. */
     static void close(String name) {
-        System.out.println(name + ": " + calls + " answers, " + wrong + " not as due");
-        if (wrong > 0 || calls == 0) {
+        System.out.println(name + ": " + looks + " answers, " + wrong + " not as due");
+        if (wrong > 0 || looks == 0) {
             System.exit(1);
         }
     }
