@@ -44,7 +44,8 @@ final class CausesOfEpic {
                 "before(4, 4) = IOOBE; before(-1, -1) = IOOBE; before(3, 2147483647) = IOOBE");
         Document.refusal(12, "for either", "before(0, 1) = IOOBE; episode('t', 1, 0, false); before(0, 1) = IOOBE");
         Document.refusal(12, "the second one has no greater number", FOUR,
-                "before(2, 1) = IAE; before(2, 2) = IAE; before(3, 0) = IAE; before(2, 3) = 1; bars(1) = -; bars(2) = -");
+                "before(2, 1) = IAE; before(2, 2) = IAE; before(3, 0) = IAE; before(2, 3) = 1; bars(1) = -",
+                "bars(2) = -");
         Document.refusal(12, "it is told", FOUR,
                 "before(1, 2) = 1; before(1, 2) = IAE; before(1, 3) = 2; before(1, 2) = IAE; before(0, 2) = 3");
         Document.refusal(12, "the second one was begun", FOUR,
@@ -110,7 +111,8 @@ final class CausesOfEpic {
         Document.refusal(20, "more than 6 are left", Script.each(0, 5, "episode('t', 60, 0, false)"),
                 "episode('b', 60, 0, false); orders() = 720; episode('t', 60, 0, false); orders() = UOE; left() = 7",
                 "begin(0); left() = 7; orders() = UOE; go(60); left() = 6; orders() = 720");
-        Document.refusal(20, "more than 6 are left", Script.each(0, 19, "episode('t', 60, 0, false)"), "orders() = UOE");
+        Document.refusal(20, "more than 6 are left", Script.each(0, 19, "episode('t', 60, 0, false)"),
+                "orders() = UOE");
     }
 
     private static void cut() {

@@ -21,9 +21,9 @@ final class CausesOfMusic {
         CausesTest.range(34, RANGE, "IAE", PIECES, "piece(7, #, 0) = 20", 4, 64);
         CausesTest.range(34, RANGE, "IAE", PIECES, "piece(7, 64, #) = 20", 0, 2);
         String cause = "it is played or asked for";
-        Document.refusal(34, cause, PIECES, "start(0); piece(0, 16, 0) = UOE; piece(0, 4, 2) = UOE; piece(7, 21, 0) = 20",
-                "knock(7); piece(7, 22, 0) = UOE; piece(0, 8, 0) = UOE; piece(3, 10, 1) = 9; go(2); playing() = 7",
-                "piece(7, 22, 0) = UOE; piece(0, 8, 1) = 16; piece(0, 8, 0) = 8");
+        Document.refusal(34, cause, PIECES, "start(0); piece(0, 16, 0) = UOE; piece(0, 4, 2) = UOE",
+                "piece(7, 21, 0) = 20; knock(7); piece(7, 22, 0) = UOE; piece(0, 8, 0) = UOE; piece(3, 10, 1) = 9",
+                "go(2); playing() = 7; piece(7, 22, 0) = UOE; piece(0, 8, 1) = 16; piece(0, 8, 0) = 8");
         Document.refusal(34, cause, PIECES, "go(120); start(0); knock(7); piece(7, 4, 0) = UOE; knock(0)",
                 "piece(7, 4, 0) = 20; knock(7); go(1); piece(7, 5, 0) = UOE; stroke() = 6");
     }
@@ -50,9 +50,9 @@ final class CausesOfMusic {
         Document.refusal(36, "one is asked for that was read", PIECES,
                 "start(0); knock(7) = 0; knock(0) = UOE; knock(7) = UOE; asked() = 7; go(1); knock(0) = UOE",
                 "asked() = 7; stroke() = 6; go(1); playing() = 7; asked() = NSEE; knock(0) = 0");
-        Document.refusal(36, "one is asked for that was read", ALL, "go(120); start(0) = 64; knock(7) = 2; knock(6) = 2",
-                "asked() = 6; go(1); knock(7) = UOE; asked() = 6; go(5); knock(5) = UOE; go(1); playing() = 6",
-                "stroke() = 58; knock(5) = 2; knock(4) = 2");
+        Document.refusal(36, "one is asked for that was read", ALL, "go(120); start(0) = 64; knock(7) = 2",
+                "knock(6) = 2; asked() = 6; go(1); knock(7) = UOE; asked() = 6; go(5); knock(5) = UOE; go(1)",
+                "playing() = 6; stroke() = 58; knock(5) = 2; knock(4) = 2");
     }
 
     private static void silence() {

@@ -4,8 +4,8 @@ final class CausesOfNight {
     private static final String RANGE = CausesTest.RANGE;
     private static final String NO_FIGURE = "there is no such figure";
     /** Two with the same voice and one with another, the first two in hands; a long episode that goes on. */
-    private static final String VOICES = "person(1, 4, 'l'); person(1, 4, 'r'); person(0, 3, 'l'); figure(0); figure(1);"
-            + "figure(2); take(0) = 0; take(1) = 1; episode('t', 60, 0, false); begin(0) = 60;";
+    private static final String VOICES = "person(1, 4, 'l'); person(1, 4, 'r'); person(0, 3, 'l'); figure(0);"
+            + "figure(1); figure(2); take(0) = 0; take(1) = 1; episode('t', 60, 0, false); begin(0) = 60;";
     /** A clown and another one, in hands, who know the facts 0 and 7. */
     private static final String TELLERS = "person(0, 0, 'l'); person(1, 0, 'l'); figure(0); figure(1); take(0) = 0;"
             + "take(1) = 1; learn(0, 0); learn(1, 0); learn(0, 7); learn(1, 7);";
@@ -78,7 +78,8 @@ final class CausesOfNight {
         Document.refusal(27, "it is not out", TELLERS, "person(2, 0, 'r'); put(0, false); say(0, 7) = UOE; take(0)",
                 "say(0, 7) = 0; put(0, true); say(0, 7) = 0");
         Document.refusal(27, "its person is dead", TELLERS, "episode('b', 1, 0, false); tell(0, 'd', 0, 0); begin(0)",
-                "learn(0, 3); say(0, 7) = 0; go(1); say(0, 7) = UOE; say(0, 3) = UOE; knows(1, 3) = false; say(1, 7) = 0");
+                "learn(0, 3); say(0, 7) = 0; go(1); say(0, 7) = UOE; say(0, 3) = UOE; knows(1, 3) = false",
+                "say(1, 7) = 0");
         Document.refusal(27, "does not know it", TELLERS, "say(1, 6) = UOE; say(0, 6) = UOE; learn(0, 6)",
                 "say(1, 6) = UOE; say(0, 6) = 1; say(1, 6) = 0");
         Document.refusal(27, "may not tell it", TELLERS, "person(2, 0, 'r'); figure(2); put(0, true); take(2)",

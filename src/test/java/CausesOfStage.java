@@ -47,7 +47,8 @@ final class CausesOfStage {
         CausesTest.range(3, NO_PERSON, "IOOBE", TWELVE, "figure(#) = 0", 0, 11);
         Document.refusal(3, NO_PERSON, "figure(0) = IOOBE");
         Document.refusal(3, "there are 20", "person(1, 1, 'l'); person(1, 1, 'l')",
-                Script.each(0, 19, "figure(1) = #; where(#) = b"), "figure(0) = ISE; figure(1) = ISE; where(20) = IOOBE");
+                Script.each(0, 19, "figure(1) = #; where(#) = b"), "figure(0) = ISE; figure(1) = ISE",
+                "where(20) = IOOBE");
         CausesTest.range(9, NO_FIGURE, "IOOBE", NIGHT, "where(#)", 0, 1);
         Document.refusal(9, NO_FIGURE, "where(0) = IOOBE; person(1, 1, 'l'); where(0) = IOOBE");
     }
@@ -67,7 +68,8 @@ final class CausesOfStage {
         CausesTest.range(7, NO_FIGURE, "IOOBE", THREE, "take(#) = 0", 0, 2);
         Document.refusal(7, NO_FIGURE, "take(0) = IOOBE; person(1, 1, 'l'); take(0) = IOOBE");
         Document.refusal(7, "it is in a hand", THREE,
-                "take(0) = 0; take(0) = UOE; where(0) = 0; take(1) = 1; put(0, false) = 0; take(1) = UOE; where(1) = 1");
+                "take(0) = 0; take(0) = UOE; where(0) = 0; take(1) = 1; put(0, false) = 0; take(1) = UOE",
+                "where(1) = 1");
         Document.refusal(7, "no hand is free", THREE,
                 "take(0) = 0; take(1) = 1; take(2) = UOE; where(2) = b; put(0, false) = 0; take(2) = 0");
         Document.refusal(7, "no hand is free", THREE,
@@ -83,7 +85,8 @@ final class CausesOfStage {
         CausesTest.range(8, NO_FIGURE, "IOOBE", inHands, "put(#, true)", 0, 1);
         CausesTest.range(8, NO_FIGURE, "IOOBE", inHands, "put(#, false)", 0, 1);
         Document.refusal(8, NO_FIGURE, "put(0, true) = IOOBE; put(0, false) = IOOBE; person(1, 1, 'l')",
-                "put(0, false) = IOOBE; figure(0); take(0); put(1, true) = IOOBE; put(-1, false) = IOOBE; where(0) = 0");
+                "put(0, false) = IOOBE; figure(0); take(0); put(1, true) = IOOBE; put(-1, false) = IOOBE",
+                "where(0) = 0");
         Document.refusal(8, "it is in no hand", THREE,
                 "put(0, true) = UOE; put(0, false) = UOE; where(0) = b; take(0); put(0, true) = 0; put(0, true) = UOE",
                 "put(0, false) = UOE; where(0) = s; onStem('l', 0) = 0; onStem('l', 1) = NSEE");

@@ -109,7 +109,8 @@ public final class FirstListedTest {
         pair("IAE", "UOE", SPEAKER, "speak(1, 21)", "speak(1, 20)");
         pair("IAE", "ISE", SPEAKER_AT_DAWN, "speak(0, 21)", "speak(0, 20)");
         pair("UOE", "ISE", SPEAKER_AT_DAWN, "speak(1, 6)", "speak(0, 6)");
-        pair("UOE", "ISE", SPEAKER_AT_DAWN + "go(1); episode('b', 1, 0, false)", "speak(0, 5)", "begin(1); speak(0, 5)");
+        pair("UOE", "ISE", SPEAKER_AT_DAWN + "go(1); episode('b', 1, 0, false)", "speak(0, 5)",
+                "begin(1); speak(0, 5)");
         pair("IOOBE", "IAE", SPEAKER, "say(2, 8)", "say(0, 8)");
         pair("IOOBE", "UOE", SPEAKER, "say(-1, 7)", "say(0, 7)");
         pair("IAE", "UOE", SPEAKER, "say(1, 8)", "say(1, 7)");

@@ -58,7 +58,8 @@ public final class MusicAndPublicTest {
                 "go(120); go(120); go(120); start(0); go(2); stroke() = 1; knock(1) = 6; go(1) = 363; playing() = 1;",
                 "stroke() = 62");
         Script.run("36 knock, a stroke at the reading", "piece(0, 7, 0); piece(1, 64, 0)",
-                "go(120); go(120); start(0) = 7; go(1); stroke() = 4; knock(1) = 4; go(1); playing() = 1; stroke() = 58");
+                "go(120); go(120); start(0) = 7; go(1); stroke() = 4; knock(1) = 4; go(1); playing() = 1",
+                "stroke() = 58");
         Script.run("36 knock, a stroke just ahead of the reading", "piece(0, 13, 0); piece(1, 64, 0)",
                 "go(120); go(120); start(0) = 13; go(1); stroke() = 3; knock(1) = 4; go(1); playing() = 0",
                 "asked() = 1; stroke() = 6; go(1); playing() = 1; stroke() = 60");
