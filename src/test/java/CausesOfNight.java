@@ -35,6 +35,9 @@ final class CausesOfNight {
         Document.refusal(25, "it is too early", "nextMode() = UOE", Script.pass(0, 179), "nextMode() = UOE; mode() = 0",
                 "go(1); nextMode() = 1; nextMode() = UOE", Script.pass(180, 359), "nextMode() = UOE; mode() = 1; go(1)",
                 "nextMode() = 2; mode() = 2");
+        Document.refusal(25, "it is too early", "piece(0, 64, 0); start(0); go(120); knock(0) = 2; nextMode() = UOE",
+                "asked() = 0; knock(0) = 2; playing() = 0; stroke() = 16; go(1); asked() = 0; nextMode() = UOE; go(1)",
+                "asked() = NSEE; stroke() = 60");
         Document.refusal(25, "it is 2", Script.pass(0, 360), "nextMode() = 1; nextMode() = 2; nextMode() = UOE",
                 Script.pass(360, 540), "nextMode() = UOE; mode() = 2");
         Document.refusal(25, "an episode goes on", "episode('b', 2, 0, false)", Script.pass(0, 180),
@@ -90,7 +93,7 @@ final class CausesOfNight {
     private static void factsAndOfferings() {
         CausesTest.range(28, RANGE, "IAE", NIGHT, "bar(#, true) = false; bar(#, false) = true", 0, 7);
         CausesTest.range(28, RANGE, "IAE", NIGHT, "bar(#, false) = false", 0, 7);
-        CausesTest.range(29, RANGE, "IAE", NIGHT, "wish(#) = 4", 0, 7);
+        CausesTest.range(29, RANGE, "IAE", NIGHT, "wish(#) = 2", 0, 7);
         CausesTest.range(29, RANGE, "IAE", "", "wish(#) = -1", 0, 7);
         CausesTest.range(31, RANGE, "IAE", "", "offer(#)", 1, 9);
         Document.refusal(31, "there would be more than 9",

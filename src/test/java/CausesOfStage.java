@@ -75,6 +75,9 @@ final class CausesOfStage {
         Document.refusal(7, "no hand is free", THREE,
                 "take(2) = 0; put(2, true); take(0) = 0; take(1) = 1; take(2) = UOE; where(2) = s",
                 "onStem('l', 0) = 2; put(1, false) = 1; take(2) = 1; onStem('l', 0) = NSEE");
+        Document.refusal(7, "no hand is free", THREE, Script.each(0, 2, "take(#) = 0; put(#, true) = 0"),
+                "person(1, 1, 'r'); person(1, 1, 'r'); figure(3); figure(4); take(3); take(4); take(0) = UOE",
+                "onStem('l', 0) = 0; onStem('l', 1) = 1; onStem('l', 2) = 2; onStem('l', 3) = NSEE");
         Document.refusal(7, "another figure of its person is out", THREE,
                 "figure(1) = 3; take(1) = 0; take(3) = UOE; where(3) = b; put(1, true) = 0; take(3) = UOE",
                 "where(1) = s; take(1) = 0; put(1, false) = 0; take(3) = 0; where(3) = 0; take(1) = UOE");
@@ -90,6 +93,8 @@ final class CausesOfStage {
         Document.refusal(8, "it is in no hand", THREE,
                 "put(0, true) = UOE; put(0, false) = UOE; where(0) = b; take(0); put(0, true) = 0; put(0, true) = UOE",
                 "put(0, false) = UOE; where(0) = s; onStem('l', 0) = 0; onStem('l', 1) = NSEE");
+        Document.refusal(8, "it is in no hand", THREE, Script.each(0, 2, "take(#) = 0; put(#, true) = 0"),
+                "put(0, true) = UOE; put(0, false) = UOE; onStem('l', 0) = 0; onStem('l', 1) = 1; onStem('l', 2) = 2");
         Document.refusal(8, "the stem has 6", Script.each(0, 6, "person(1, 1, 'l'); figure(#)"),
                 Script.each(0, 5, "take(#) = 0; put(#, true) = 0"), "person(9, 1, 'l'); figure(7); take(6) = 0",
                 "take(7) = 1; put(6, true) = UOE; put(7, true) = UOE; where(6) = 0; where(7) = 1",

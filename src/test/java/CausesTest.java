@@ -6,10 +6,11 @@ public final class CausesTest {
     static final String RANGE = "a number is out of range";
 
     /** A night in the middle of its play: persons with their figures out, and episodes played, going on, open. */
-    static final String NIGHT = "person(0, 1, 'l'); person(3, 2, 'r'); figure(0); figure(1); take(0); take(1);"
-            + "put(1, true); learn(0, 2); episode('t', 2, 0, false); episode('t', 9, 0, false);"
-            + "episode('b', 5, 0, true); before(0, 1); tell(1, 'f', 1, 3); offer(3); piece(0, 9, 0); piece(1, 7, 0);"
-            + "start(0); wish(4); crowd(50); begin(0); speak(0, 2); begin(1); knock(1);";
+    static final String NIGHT = "person(0, 1, 'l'); person(3, 2, 'r'); figure(0); figure(1); take(0); learn(0, 2);"
+            + "bar(2, true); bar(5, true); wish(2); say(0, 2); take(1); put(1, true); episode('t', 2, 0, false);"
+            + "episode('t', 9, 0, false); episode('b', 5, 0, true); before(0, 1); tell(1, 'f', 1, 3); offer(3);"
+            + "piece(0, 9, 0); piece(1, 7, 0); start(0); tree(false); rain(true); crowd(50); begin(0); speak(0, 2);"
+            + "begin(1); knock(1); isMet() = true;";
 
     public static void main(String[] args) {
         CausesOfStage.run();

@@ -116,6 +116,9 @@ final class TermsOfMusic {
                 "nextMode() = 2; asked() = NSEE; playing() = NSEE; start(2) = 9; knock(2) = 6");
         Document.sentence(sentence, both, Script.pass(0, 179), "start(0); knock(0) = 2; go(1); asked() = 0",
                 "nextMode() = 1; asked() = NSEE; start(1) = 9; knock(1) = 2; knock(1) = 2");
+        Document.sentence(sentence, both, Script.pass(0, 180), "start(0); knock(0) = 2; nextMode() = 1;",
+                Script.pass(180, 360), "start(1) = 9; knock(1) = 6; knock(1) = 6; go(1); knock(1) = 6; nextMode() = 2",
+                "start(2) = 9; go(1); stroke() = 8; asked() = NSEE; playing() = 2");
         Document.sentence(sentence, Script.pass(0, 180), "nextMode() = 1; playing() = NSEE; asked() = NSEE");
     }
 }
