@@ -14,6 +14,7 @@ final class Document {
     private static final Path FILE = Path.of("../shared/DOC.md");
     private static final String TEXT = read();
     private static final List<String> quotes = new ArrayList<>();
+    private static final Set<Integer> promises = new TreeSet<>();
     /** What refusals have tested, as "7 UnsupportedOperationException it is in a hand". */
     private static final Set<String> causes = new TreeSet<>();
 
@@ -55,6 +56,31 @@ final class Document {
         Script.note(joined(TEXT).contains(quote), "the document does not say: " + quote);
         quotes.add(quote);
         Script.run(quote, texts);
+    }
+
+    /** Tests what a promise says of its call besides the exceptions, quoted in its own words. */
+    static void promise(int promise, String quote, String... texts) {
+        Script.note(saidOf(promise).equals(quote), "promise " + promise + " says: " + saidOf(promise));
+        promises.add(promise);
+        Script.run("promise " + promise + ": " + quote, texts);
+    }
+
+    /** Each promise of these was quoted. */
+    static void closePromises(int first, int last) {
+        for (int promise = first; promise <= last; promise++) {
+            Script.note(promises.contains(promise), "no test of promise " + promise);
+        }
+    }
+
+    /** The sentences of a promise, without the call's head, its parameters and exceptions. */
+    private static String saidOf(int promise) {
+        StringBuilder said = new StringBuilder();
+        for (String line : section("Promise " + promise).split("\n")) {
+            if (!line.startsWith("- ") && !line.startsWith("Throws ")) {
+                said.append(line).append(' ');
+            }
+        }
+        return joined(said.substring(said.indexOf("`: ") + 2));
     }
 
     /** Each sentence under the head was quoted, in whole or in part, but those that begin as the spared ones do. */

@@ -16,11 +16,12 @@ public final class EpisodesTest {
         orders();
         ordersBehindWhatGoesOn();
         cut();
+        Document.closePromises(11, 21);
         Script.close("EpisodesTest");
     }
 
     private static void episode() {
-        Script.run("11 episode",
+        Document.promise(11, "Adds an episode. Returns its number.",
                 "episode('t', 1, 0, false) = 0; episode('b', 60, 2, true) = 1",
                 "episode('x', 1, 0, false) = IAE; episode('t', 0, 0, false) = IAE",
                 "episode('t', 61, 0, false) = IAE; episode('b', 1, -1, false) = IAE",
@@ -30,7 +31,7 @@ public final class EpisodesTest {
     }
 
     private static void before() {
-        Script.run("12 before",
+        Document.promise(12, "Tells a pair. Returns how many there are.",
                 "before(0, 1) = IOOBE", Script.each(0, 3, "episode('t', 2, 0, false) = #"),
                 "before(-1, 1) = IOOBE; before(4, 1) = IOOBE; before(1, -1) = IOOBE",
                 "before(1, 4) = IOOBE; before(4, 4) = IOOBE",
@@ -56,7 +57,7 @@ public final class EpisodesTest {
     }
 
     private static void tell() {
-        Script.run("13 tell",
+        Document.promise(13, "Tells a line of an episode. Returns how many there are.",
                 "tell(0, 'a', 0, 0) = IOOBE; person(1, 1, 'l'); tell(0, 'a', 0, 0) = IOOBE",
                 "episode('t', 2, 0, false); tell(0, 'x', 1, 0) = IOOBE; tell(-1, 'a', 0, 0) = IOOBE",
                 "tell(1, 'a', 0, 0) = IOOBE; tell(0, 'a', -1, 0) = IOOBE",
@@ -103,7 +104,7 @@ public final class EpisodesTest {
     }
 
     private static void bars() {
-        Script.run("14 bars",
+        Document.promise(14, "Returns what bars an episode. Returns the letter, '-' for nothing.",
                 "bars(0) = IOOBE; person(1, 0, 'l'); episode('t', 1, 0, false); tell(0, 'd', 0, 0)",
                 "episode('t', 1, 0, false); episode('t', 60, 1, true); episode('t', 60, 1, true)",
                 "episode('b', 60, 0, true); episode('b', 60, 0, true); episode('b', 60, 0, true)",
@@ -122,7 +123,7 @@ public final class EpisodesTest {
     }
 
     private static void begin() {
-        Script.run("15 begin",
+        Document.promise(15, "Begins an episode. Returns the minute at which it ends.",
                 "begin(0) = IOOBE; episode('t', 10, 0, true); episode('t', 5, 0, true); episode('b', 1, 1, false)",
                 "begin(-1) = IOOBE; begin(3) = IOOBE; begin(0) = UOE; begin(2) = UOE",
                 "offer(1) = 1; go(3); begin(0) = 13; begin(1) = UOE; begin(0) = UOE",
@@ -133,13 +134,13 @@ public final class EpisodesTest {
     }
 
     private static void going() {
-        Script.run("16 going",
+        Document.promise(16, "Returns which episode goes on. Returns its number.",
                 "going() = NSEE; episode('t', 2, 0, false); episode('b', 3, 0, false); going() = NSEE",
                 "begin(1); going() = 1; go(2); going() = 1; go(1); going() = NSEE; begin(0); going() = 0");
     }
 
     private static void isPlayed() {
-        Script.run("17 isPlayed",
+        Document.promise(17, "Tells whether an episode was played. Returns true if so.",
                 "isPlayed(0) = IOOBE; episode('t', 2, 0, false); episode('b', 3, 0, false)",
                 "isPlayed(-1) = IOOBE; isPlayed(2) = IOOBE; isPlayed(0) = false; begin(0)",
                 "go(1); isPlayed(0) = false; go(1); isPlayed(0) = true; isPlayed(1) = false");
@@ -151,13 +152,14 @@ public final class EpisodesTest {
     }
 
     private static void left() {
-        Script.run("18 left",
+        Document.promise(18, "Returns how many episodes of the trunk are left. Returns their number.",
                 "left() = 0; episode('t', 2, 0, false); episode('b', 3, 0, false); episode('t', 2, 2, true)",
                 "left() = 2; begin(0); left() = 2; go(2); left() = 1; begin(1); left() = 1; go(3); left() = 1");
     }
 
     private static void isLost() {
-        Script.run("19 isLost, by the mode", "isLost() = false",
+        Document.promise(19, "Tells whether the trunk is lost. Returns true if so.",
+                "isLost() = false",
                 "episode('t', 1, 0, false); episode('b', 1, 0, false); episode('t', 1, 1, false); isLost() = false",
                 "go(120); go(60); begin(0); go(1); nextMode() = 1; isLost() = false; episode('t', 1, 0, false)",
                 "isLost() = true");
@@ -184,7 +186,8 @@ public final class EpisodesTest {
     }
 
     private static void orders() {
-        Script.run("20 orders", "orders() = 1; episode('b', 1, 0, false); orders() = 1",
+        Document.promise(20, "Returns how many good orders there are of those that are left. Returns their number.",
+                "orders() = 1; episode('b', 1, 0, false); orders() = 1",
                 "episode('t', 60, 2, true); orders() = 1; episode('t', 60, 0, true); orders() = 2",
                 "episode('t', 1, 1, true); orders() = 6; before(1, 3); orders() = 3; before(2, 3); orders() = 2",
                 "before(0, 2); orders() = 0; begin(0); orders() = 2; go(1); orders() = 2");
@@ -225,7 +228,7 @@ public final class EpisodesTest {
     }
 
     private static void cut() {
-        Script.run("21 cut",
+        Document.promise(21, "Returns how many minutes a cut for the radio has. Returns their sum.",
                 "cut(0) = IAE; cut(541) = IAE; cut(-5) = IAE; cut(1) = 0; cut(540) = 0",
                 "episode('t', 10, 0, false); episode('b', 7, 0, false); episode('b', 3, 0, false)",
                 "episode('b', 7, 0, false); episode('t', 4, 0, false); episode('b', 1, 0, false); cut(1) = 0",

@@ -11,11 +11,12 @@ public final class MusicAndPublicTest {
         crowdAndAsleep();
         attention();
         rain();
+        Document.closePromises(34, 43);
         Script.close("MusicAndPublicTest");
     }
 
     private static void piece() {
-        Script.run("34 piece",
+        Document.promise(34, "Tells a piece, anew if it was told. Returns its cycle before, 0 without one.",
                 "piece(-1, 4, 0) = IAE; piece(8, 4, 0) = IAE; piece(0, 3, 0) = IAE",
                 "piece(0, 65, 0) = IAE; piece(0, 4, -1) = IAE; piece(0, 4, 3) = IAE",
                 "piece(0, 4, 0) = 0; piece(0, 64, 2) = 4; piece(0, 8, 0) = 64; piece(7, 5, 0) = 0",
@@ -27,7 +28,7 @@ public final class MusicAndPublicTest {
     }
 
     private static void start() {
-        Script.run("35 start",
+        Document.promise(35, "Starts a piece. Returns the beats up to its first great stroke.",
                 "start(-1) = IAE; start(8) = IAE; start(0) = UOE; piece(0, 4, 1); start(0) = UOE",
                 "piece(1, 7, 0); start(1) = 7; start(1) = UOE; start(8) = IAE; piece(2, 9, 0)",
                 "start(2) = UOE; playing() = 1; stroke() = 7; go(1); stroke() = 4");
@@ -37,7 +38,7 @@ public final class MusicAndPublicTest {
     }
 
     private static void knock() {
-        Script.run("36 knock",
+        Document.promise(36, "Asks for a piece. Returns in how many beats it is read.",
                 "knock(-1) = IAE; knock(8) = IAE; piece(0, 16, 0); piece(1, 8, 0); piece(2, 8, 1)",
                 "knock(0) = UOE; start(0); knock(3) = UOE; knock(2) = UOE; knock(8) = IAE",
                 "asked() = NSEE; knock(1) = 0; knock(0) = UOE; asked() = 1; go(1); playing() = 0; stroke() = 6",
@@ -69,31 +70,38 @@ public final class MusicAndPublicTest {
     }
 
     private static void playing() {
-        Script.run("37 playing", "playing() = NSEE; piece(5, 4, 0); playing() = NSEE; start(5)",
+        Document.promise(37, "Returns which piece is played. Returns its number.",
+                "playing() = NSEE; piece(5, 4, 0); playing() = NSEE; start(5)",
                 "playing() = 5; go(120); playing() = 5; go(60); nextMode(); playing() = NSEE");
     }
 
     private static void asked() {
-        Script.run("38 asked", "asked() = NSEE; piece(5, 20, 0); start(5); asked() = NSEE",
+        Document.promise(38, "Returns for which piece was asked. Returns its number.",
+                "asked() = NSEE; piece(5, 20, 0); start(5); asked() = NSEE",
                 "knock(5); asked() = 5; go(1); asked() = 5; go(1); asked() = NSEE");
     }
 
     private static void stroke() {
-        Script.run("39 stroke", "stroke() = NSEE; piece(0, 15, 0); stroke() = NSEE; start(0) = 15",
+        Document.promise(39, "Returns in how many beats the next great stroke comes. Returns their number.",
+                "stroke() = NSEE; piece(0, 15, 0); stroke() = NSEE; start(0) = 15",
                 "stroke() = 15; go(1); stroke() = 5; go(1); stroke() = 10; go(1); stroke() = 15; go(120)",
                 "stroke() = 15; go(1); stroke() = 5");
     }
 
     private static void crowdAndAsleep() {
-        Script.run("40 crowd", "crowd(-1) = IAE; crowd(501) = IAE; crowd(500) = 0; crowd(0) = 500",
+        Document.promise(40, "Sets how many watch. Returns the number before.",
+                "crowd(-1) = IAE; crowd(501) = IAE; crowd(500) = 0; crowd(0) = 500",
                 "crowd(7) = 0; crowd(900) = IAE; crowd(8) = 7");
-        Script.run("42 asleep", "asleep() = 0; crowd(500); asleep() = 0; go(10); asleep() = 5; crowd(99); asleep() = 0",
+        Document.promise(42, "Returns how many are asleep. Returns those who watch times 100 less the attention,"
+                + " divided by 100, cut.",
+                "asleep() = 0; crowd(500); asleep() = 0; go(10); asleep() = 5; crowd(99); asleep() = 0",
                 "crowd(199); asleep() = 1; rain(true); go(120); go(120); asleep() = 97; go(120); go(120); go(40)",
                 "attention() = 0; asleep() = 199; crowd(0); asleep() = 0");
     }
 
     private static void attention() {
-        Script.run("41 attention", "attention() = 100; go(9); attention() = 100; go(1); attention() = 99; go(10)",
+        Document.promise(41, "Returns the attention. Returns the number.",
+                "attention() = 100; go(9); attention() = 100; go(1); attention() = 99; go(10)",
                 "attention() = 98; rain(true); go(10); attention() = 96; episode('t', 5, 0, false); begin(0); go(4)",
                 "attention() = 96; go(1); attention() = 100; go(5); attention() = 98");
         Script.run("41 attention, first it falls, then an episode ends",
@@ -106,7 +114,8 @@ public final class MusicAndPublicTest {
     }
 
     private static void rain() {
-        Script.run("43 rain", "rain(false) = false; rain(true) = false; rain(true) = true; go(10); attention() = 98",
+        Document.promise(43, "Tells whether it rains. Returns whether it did.",
+                "rain(false) = false; rain(true) = false; rain(true) = true; go(10); attention() = 98",
                 "rain(false) = true; go(10); attention() = 97");
     }
 }

@@ -16,11 +16,14 @@ public final class NightTest {
         offer();
         tree();
         end();
+        Document.closePromises(1, 1);
+        Document.closePromises(22, 33);
         Script.close("NightTest");
     }
 
     private static void newObject() {
-        Script.run("1 a new object",
+        Document.promise(1, "Creates a night at the minute 0, without persons, figures, episodes and pieces; the tree"
+                + " of life is up.",
                 "minute() = 0; mode() = 0; attention() = 100; asleep() = 0; left() = 0; isLost() = false",
                 "isAlive(0) = IOOBE; where(0) = IOOBE; isPlayed(0) = IOOBE; going() = NSEE",
                 "playing() = NSEE; asked() = NSEE; isMet() = NSEE; crowd(0) = 0; rain(false) = false",
@@ -28,7 +31,7 @@ public final class NightTest {
     }
 
     private static void go() {
-        Script.run("22 go",
+        Document.promise(22, "Lets minutes go by. Returns the minute then.",
                 "go(0) = IAE; go(121) = IAE; go(-1) = IAE; go(2147483647) = IAE",
                 "go(1) = 1; go(120) = 121; go(120) = 241; go(120) = 361; go(120) = 481; go(60) = ISE",
                 "minute() = 481; attention() = 52; go(121) = IAE; go(59) = 540; go(1) = ISE; go(0) = IAE",
@@ -39,13 +42,15 @@ public final class NightTest {
     }
 
     private static void minuteAndMode() {
-        Script.run("23 minute", "minute() = 0; go(7); minute() = 7; go(121) = IAE; minute() = 7");
-        Script.run("24 mode", "mode() = 0; " + TO_DAWN, "mode() = 0; nextMode() = 1; mode() = 1",
+        Document.promise(23, "Returns the minute. Returns the number.",
+                "minute() = 0; go(7); minute() = 7; go(121) = IAE; minute() = 7");
+        Document.promise(24, "Returns the mode. Returns 0, 1 or 2.",
+                "mode() = 0; " + TO_DAWN, "mode() = 0; nextMode() = 1; mode() = 1",
                 "nextMode() = 2; mode() = 2; nextMode() = UOE; mode() = 2");
     }
 
     private static void nextMode() {
-        Script.run("25 nextMode",
+        Document.promise(25, "Lets the mode go on. Returns the mode then.",
                 "nextMode() = UOE; go(120); go(59); nextMode() = UOE; mode() = 0; go(1); nextMode() = 1",
                 "nextMode() = UOE; go(120); go(59); nextMode() = UOE; go(1) = 360; nextMode() = 2",
                 "nextMode() = UOE");
@@ -59,7 +64,7 @@ public final class NightTest {
     }
 
     private static void speak() {
-        Script.run("26 speak",
+        Document.promise(26, "Lets a figure speak. Returns the attention then.",
                 "person(0, 0, 'l'); person(1, 1, 'l'); figure(0); figure(1); take(0); take(1); put(1, true)",
                 "rain(true); go(120); go(120); attention() = 52; episode('t', 60, 0, false); begin(0)",
                 "speak(0, 1) = 55; minute() = 241; speak(1, 1) = 56; speak(1, 20) = 53; minute() = 262",
@@ -110,7 +115,7 @@ public final class NightTest {
     }
 
     private static void say() {
-        Script.run("27 say",
+        Document.promise(27, "Lets a person tell a fact by its figure. Returns how many persons know it newly.",
                 "say(0, 8) = IOOBE; person(0, 0, 'l'); person(1, 1, 'r'); person(2, 1, 'r'); person(3, 1, 'l')",
                 Script.each(0, 3, "figure(#)"), "say(-1, 0) = IOOBE; say(4, 0) = IOOBE",
                 "say(0, 8) = IAE; say(0, -1) = IAE; say(0, 2) = UOE; learn(0, 2); say(0, 2) = UOE",
@@ -130,17 +135,17 @@ public final class NightTest {
     }
 
     private static void bar() {
-        Script.run("28 bar",
+        Document.promise(28, "Bars a fact, or lets it be told. Returns whether it was barred.",
                 "bar(-1, true) = IAE; bar(8, false) = IAE; bar(0, false) = false; bar(0, true) = false",
                 "bar(0, true) = true; bar(7, true) = false; bar(1, true) = false; bar(0, false) = true",
                 "bar(0, false) = false; bar(7, false) = true; bar(1, false) = true; bar(1, true) = false");
     }
 
     private static void wishAndIsMet() {
-        Script.run("29 wish",
+        Document.promise(29, "Lets the host wish for a fact. Returns the wish before, -1 for none.",
                 "wish(-1) = IAE; wish(8) = IAE; isMet() = NSEE; wish(0) = -1; wish(7) = 0; wish(7) = 7",
                 "wish(9) = IAE; wish(3) = 7");
-        Script.run("30 isMet",
+        Document.promise(30, "Tells whether the latest wish is met. Returns true if so.",
                 "person(0, 0, 'l'); person(1, 0, 'l'); figure(0); figure(1); take(0); take(1)",
                 "learn(0, 1); learn(1, 1); learn(0, 2); isMet() = NSEE; say(0, 1) = 0; isMet() = NSEE",
                 "wish(1) = -1; isMet() = false; say(1, 1) = 0; isMet() = false; say(0, 2) = 1; isMet() = false",
@@ -151,7 +156,7 @@ public final class NightTest {
     }
 
     private static void offer() {
-        Script.run("31 offer",
+        Document.promise(31, "Brings offerings. Returns how many there are.",
                 "offer(0) = IAE; offer(10) = IAE; offer(-2147483648) = IAE; offer(1) = 1; offer(7) = 8",
                 "offer(2) = ISE; offer(10) = IAE; offer(1) = 9; offer(1) = ISE");
         Script.run("31 offer, at once", "offer(9) = 9; offer(9) = ISE; episode('b', 1, 0, true); begin(0) = 1",
@@ -159,11 +164,12 @@ public final class NightTest {
     }
 
     private static void tree() {
-        Script.run("32 tree", "tree(false) = true; tree(false) = false; tree(true) = false; tree(true) = true");
+        Document.promise(32, "Lays the tree of life down, or plants it. Returns whether it was up.",
+                "tree(false) = true; tree(false) = false; tree(true) = false; tree(true) = true");
     }
 
     private static void end() {
-        Script.run("33 end",
+        Document.promise(33, "Returns how the night is told. Returns 't', 'u', 'h' or 'g'.",
                 "end() = NSEE; person(1, 0, 'l'); person(1, 1, 'l'); figure(0); figure(1); take(0); take(1)",
                 "put(0, false); episode('t', 10, 0, false); episode('b', 10, 0, false)",
                 "go(120); go(120); go(120); go(120); go(50); begin(0); tree(false); go(9); end() = NSEE",

@@ -9,11 +9,12 @@ public final class PersonsAndFiguresTest {
         put();
         where();
         onStem();
+        Document.closePromises(2, 10);
         Script.close("PersonsAndFiguresTest");
     }
 
     private static void person() {
-        Script.run("2 person",
+        Document.promise(2, "Adds a person. Returns its number.",
                 "person(0, 0, 'l') = 0; person(9, 5, 'r') = 1",
                 "person(-1, 0, 'l') = IAE; person(10, 0, 'l') = IAE",
                 "person(0, -1, 'l') = IAE; person(0, 6, 'l') = IAE",
@@ -25,14 +26,14 @@ public final class PersonsAndFiguresTest {
     }
 
     private static void figure() {
-        Script.run("3 figure",
+        Document.promise(3, "Adds a figure, which is in the box. Returns its number.",
                 "figure(0) = IOOBE; person(1, 1, 'l') = 0; figure(-1) = IOOBE; figure(1) = IOOBE",
                 Script.each(0, 19, "figure(0) = #; where(#) = b"),
                 "figure(0) = ISE; figure(1) = IOOBE; take(19) = 0; take(20) = IOOBE");
     }
 
     private static void isAlive() {
-        Script.run("4 isAlive",
+        Document.promise(4, "Tells whether a person lives. Returns true if so.",
                 "isAlive(0) = IOOBE; person(1, 1, 'l') = 0; person(2, 1, 'l') = 1; isAlive(0) = true",
                 "isAlive(-1) = IOOBE; isAlive(2) = IOOBE",
                 "episode('t', 2, 0, false); tell(0, 'd', 1, 0); tell(0, 'f', 1, 6); begin(0); go(1)",
@@ -41,11 +42,11 @@ public final class PersonsAndFiguresTest {
     }
 
     private static void knowsAndLearn() {
-        Script.run("5 knows",
+        Document.promise(5, "Tells whether a person knows a fact. Returns true if so.",
                 "knows(0, 8) = IOOBE; person(1, 1, 'l') = 0; person(1, 1, 'l') = 1; knows(0, 0) = false",
                 "knows(0, 8) = IAE; knows(0, -1) = IAE; knows(2, 0) = IOOBE; knows(-1, 9) = IOOBE",
                 "learn(1, 7) = 1; knows(1, 7) = true; knows(1, 6) = false; knows(0, 7) = false");
-        Script.run("6 learn",
+        Document.promise(6, "Lets a person know a fact. Returns how many facts it knows.",
                 "learn(0, 8) = IOOBE", Script.each(0, 11, "person(1, 1, 'l') = #"),
                 "learn(0, 8) = IAE; learn(0, -1) = IAE; learn(12, 0) = IOOBE; learn(-1, 0) = IOOBE",
                 "learn(0, 3) = 1; learn(0, 3) = 1; learn(0, 0) = 2; learn(0, 7) = 3",
@@ -56,7 +57,7 @@ public final class PersonsAndFiguresTest {
     }
 
     private static void take() {
-        Script.run("7 take",
+        Document.promise(7, "Takes a figure into a hand, the lower one that is free. Returns the hand.",
                 "take(0) = IOOBE", Script.each(0, 2, "person(1, #, 'l'); figure(#) = #"), "figure(0) = 3",
                 "take(-1) = IOOBE; take(4) = IOOBE",
                 "take(1) = 0; take(1) = UOE; take(0) = 1; take(2) = UOE; where(2) = b",
@@ -69,7 +70,7 @@ public final class PersonsAndFiguresTest {
     }
 
     private static void put() {
-        Script.run("8 put",
+        Document.promise(8, "Puts a figure away that is in a hand. Returns the hand that is free.",
                 "put(0, true) = IOOBE; person(1, 1, 'l'); figure(0); put(1, true) = IOOBE",
                 "put(-1, false) = IOOBE; put(0, true) = UOE; put(0, false) = UOE",
                 "take(0) = 0; put(0, true) = 0; where(0) = s; put(0, true) = UOE; put(0, false) = UOE",
@@ -84,14 +85,14 @@ public final class PersonsAndFiguresTest {
     }
 
     private static void where() {
-        Script.run("9 where",
+        Document.promise(9, "Returns where a figure is. Returns 'b', 's', '0' or '1'.",
                 "where(0) = IOOBE; person(1, 1, 'l'); person(1, 1, 'r'); figure(0); figure(1)",
                 "where(-1) = IOOBE; where(2) = IOOBE; where(0) = b; take(0); where(0) = 0",
                 "take(1); where(1) = 1; where(0) = 0; put(0, true); where(0) = s; put(1, false); where(1) = b");
     }
 
     private static void onStem() {
-        Script.run("10 onStem",
+        Document.promise(10, "Returns a figure on a stem. Returns its number.",
                 "onStem('l', 0) = NSEE; onStem('s', 0) = IAE; onStem('s', -1) = IAE",
                 "person(3, 0, 'l'); person(5, 0, 'l'); person(3, 0, 'l'); person(0, 0, 'l'); person(5, 0, 'l')",
                 "person(9, 0, 'r')", Script.each(0, 5, "figure(#); take(#) = 0; put(#, true) = 0"),
