@@ -10,6 +10,7 @@ import java.util.List;
 import java.util.Set;
 import java.util.regex.Matcher;
 import java.util.regex.Pattern;
+import java.util.stream.Stream;
 
 /**
  * The rules of ../shared/LANGUAGE.md that can be read off the class and its source. Of what the rules allow with care,
@@ -42,7 +43,11 @@ public final class LanguageTest {
 
     private static void classes() {
         List<Class<?>> classes = new ArrayList<>(List.of(GununganNight.class.getDeclaredClasses()));
+        List<String> face = Stream.of(GununganNight.class.getMethods()).map(Method::getName).toList();
         for (Class<?> inside : classes) {
+            for (Method method : inside.getDeclaredMethods()) {
+                Script.note(!face.contains(method.getName()), "rule 1: " + method);
+            }
             Script.note(Modifier.isStatic(inside.getModifiers()), "rule 1: " + inside);
             Script.note(inside.getDeclaredClasses().length == 0, "classes are in " + inside);
         }
